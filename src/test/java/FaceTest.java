@@ -1,0 +1,112 @@
+import java.lang.reflect.Constructor;
+import java.lang.reflect.Field;
+import java.lang.reflect.Method;
+import java.lang.reflect.Modifier;
+import java.nio.file.Files;
+import java.nio.file.Path;
+import java.util.Set;
+import java.util.TreeSet;
+import java.util.regex.Matcher;
+import java.util.regex.Pattern;
+
+/** The public face, and those rules of LANGUAGE.md that a look at the class or its text can tell. */
+public final class FaceTest {
+    private static final String[] METHODS = {
+        "feed 5", "end 1", "octet 1", "back 0", "hash 0", "key 0", "extend 1", "reset 1", "state 1", "quote 1",
+        "open 1", "policyState 2", "policyAuth 1", "policyCode 2", "policyTime 2", "policyOr 1", "digest 1",
+        "seal 1", "load 0", "unseal 2", "flush 1", "define 4", "undefine 1", "write 3", "count 2", "chain 2",
+        "read 2", "shut 2", "own 0", "unlock 0", "clear 0", "tick 1", "restart 0", "look 1"
+    };
+    private static final String[] CONSTANTS = {
+        "REFUSED", "NONE", "FULL", "DENIED", "LOCKED", "BROKEN", "WRONG"
+    };
+
+    private FaceTest() {
+    }
+
+    public static void main(String[] args) throws Exception {
+        constants();
+        methods();
+        constructors();
+        nestedClasses();
+        text();
+        Check.finish("FaceTest");
+    }
+
+    private static void constants() throws Exception {
+        Set<String> open = new TreeSet<>();
+        for (Field field : MeasuredVault.class.getDeclaredFields()) {
+            if (!Modifier.isPrivate(field.getModifiers())) {
+                open.add(field.getName());
+            }
+        }
+        Check.holds("the open fields are the constants: " + open, open.equals(new TreeSet<>(Set.of(CONSTANTS))));
+        for (int i = 0; i < CONSTANTS.length; i++) {
+            Field field = MeasuredVault.class.getField(CONSTANTS[i]);
+            Check.holds(CONSTANTS[i] + " is an int", field.getType() == int.class);
+            Check.due(CONSTANTS[i], -1 - i, field.getInt(null));
+        }
+    }
+
+    private static void methods() {
+        Set<String> open = new TreeSet<>();
+        Set<String> names = new TreeSet<>();
+        Set<String> closed = new TreeSet<>();
+        for (Method method : MeasuredVault.class.getDeclaredMethods()) {
+            if (Modifier.isPrivate(method.getModifiers())) {
+                closed.add(method.getName());
+                continue;
+            }
+            open.add(method.getName() + " " + method.getParameterCount());
+            names.add(method.getName());
+            Check.holds(method + " is public, an int, and of the object",
+                Modifier.isPublic(method.getModifiers()) && !Modifier.isStatic(method.getModifiers())
+                    && method.getReturnType() == int.class);
+            for (Class<?> type : method.getParameterTypes()) {
+                Check.holds(method + " takes ints", type == int.class);
+            }
+        }
+        Check.holds("the open methods are the document's: " + open, open.equals(new TreeSet<>(Set.of(METHODS))));
+        closed.retainAll(names);
+        Check.holds("no private method bears a public one's name: " + closed, closed.isEmpty());
+    }
+
+    private static void constructors() {
+        Constructor<?>[] made = MeasuredVault.class.getDeclaredConstructors();
+        Check.due("constructors", 1, made.length);
+        Check.holds("it is public and takes an int", Modifier.isPublic(made[0].getModifiers())
+            && made[0].getParameterCount() == 1 && made[0].getParameterTypes()[0] == int.class);
+        Check.holds("the class is final", Modifier.isFinal(MeasuredVault.class.getModifiers()));
+    }
+
+    private static void nestedClasses() {
+        Class<?>[] nested = MeasuredVault.class.getDeclaredClasses();
+        Check.holds("at most twelve classes", nested.length < 12);
+        for (Class<?> each : nested) {
+            Check.holds(each + " is static", Modifier.isStatic(each.getModifiers()));
+            Check.holds(each + " is not open", !Modifier.isPublic(each.getModifiers()));
+            for (Field field : each.getDeclaredFields()) {
+                Check.holds(field + " is no static state",
+                    !Modifier.isStatic(field.getModifiers()) || Modifier.isFinal(field.getModifiers()));
+            }
+        }
+    }
+
+    private static void text() throws Exception {
+        String code = Files.readString(Path.of("src/main/java/MeasuredVault.java"))
+            .replaceAll("(?s)/\\*.*?\\*/", "").replaceAll("//[^\n]*", "");
+        Matcher banned = Pattern.compile(
+            "\\b(throw|throws|try|catch|synchronized|assert|package|protected|float|double|native|Thread|Random)\\b"
+            + "|->|::|Exact\\(").matcher(code);
+        Check.holds("no word that LANGUAGE.md rules out", !banned.find());
+        Matcher imports = Pattern.compile("import ([^;]*);").matcher(code);
+        while (imports.find()) {
+            Check.holds("only Arrays is imported", imports.group(1).equals("java.util.Arrays"));
+        }
+        Matcher calls = Pattern.compile("\\b(Arrays|Math|System|Integer|Long)\\.(\\w+)").matcher(code);
+        Set<String> library = Set.of("Arrays.fill", "Math.min", "Math.max", "Math.floorMod", "System.arraycopy");
+        while (calls.find()) {
+            Check.holds(calls.group() + " is of the library's list", library.contains(calls.group()));
+        }
+    }
+}
