@@ -11,6 +11,7 @@ public final class OwnerTest {
         promise33Tick();
         promise33Failures();
         promise33Refused();
+        promise33LastTime();
         promise34Restart();
         promise34Stays();
         promise35Look();
@@ -171,6 +172,20 @@ public final class OwnerTest {
         }
         Check.due("THE CLOCK stays", 99, b.vault.look(1));
         Check.due("failures stay", 2, b.vault.look(0));
+    }
+
+    /** No object comes so far in its 512 calls; the class keeps the clock from running over all the same. */
+    private static void promise33LastTime() {
+        MeasuredVault v = new MeasuredVault(6);
+        for (int i = 1; i < 20000; i++) {
+            v.tick(100000);
+        }
+        Check.due("tick(99999)", 1999999999, v.tick(99999));
+        Check.due("tick(2)", Bench.REFUSED, v.tick(2));
+        Check.due("tick(1)", 2000000000, v.tick(1));
+        Check.due("tick(1)", Bench.REFUSED, v.tick(1));
+        Check.due("tick(0)", 2000000000, v.tick(0));
+        Check.due("look(1)", 2000000000, v.look(1));
     }
 
     private static void promise34Restart() {

@@ -74,7 +74,7 @@ public final class SealedTest {
         Bench b = new Bench(12);
         byte[] seed = Bench.seedOf(12);
         for (int i = 0; i < 4; i++) {
-            b.tape(Bench.blob(seed, 1000 * i, ZERO, Bench.h(), i, Bench.row(i)));
+            b.tape(Bench.blob(seed, 0x91827304 * i, ZERO, Bench.h(), i, Bench.row(i)));
             Check.due("load", i, b.vault.load());
             Check.due("objects", i + 1, b.vault.look(4));
             Check.due("the tape is empty", 0, b.vault.look(7));

@@ -270,6 +270,9 @@ public final class SessionsTest {
         byte[] tape = Bench.cat(new byte[16], b.digest(0), new byte[16]);
         b.tape(tape);
         Check.due("not at its place", Bench.WRONG, b.vault.policyOr(0));
+        b.tape(Bench.row(64)).tape(b.digest(0));
+        b.vault.end(64);
+        Check.due("cut away from the tape", Bench.WRONG, b.vault.policyOr(0));
         b.vault.open(1);
         b.tape(new byte[64]);
         Check.due("a DIGEST of 0 may be one of them", 0, b.vault.policyOr(1));
