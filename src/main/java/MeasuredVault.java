@@ -687,6 +687,13 @@ public final class MeasuredVault {
             put(value);
         }
 
+        int intAt(int i) {
+            if (i < 0 || i > held.length - 4) {
+                return 0;
+            }
+            return held[i] << 24 | (held[i + 1] & 255) << 16 | (held[i + 2] & 255) << 8 | held[i + 3] & 255;
+        }
+
         void putAll(byte[] from, int n) {
             int taken = Math.min(n, held.length - size);
             System.arraycopy(from, 0, held, size, taken);
@@ -772,10 +779,8 @@ public final class MeasuredVault {
         }
 
         private void spreadBlock(int at) {
-            byte[] row = message.held;
             for (int i = 0; i < 16; i++) {
-                int from = at + 4 * i;
-                words[i] = row[from] << 24 | (row[from + 1] & 255) << 16 | (row[from + 2] & 255) << 8 | row[from + 3] & 255;
+                words[i] = message.intAt(at + 4 * i);
             }
             for (int i = 16; i < BLOCK; i++) {
                 int x = words[i - 15];
@@ -882,7 +887,7 @@ public final class MeasuredVault {
                 return false;
             }
             byte[] row = blob.held;
-            int number = row[0] << 24 | (row[1] & 255) << 16 | (row[2] & 255) << 8 | row[3] & 255;
+            int number = blob.intAt(0);
             derive(MARKS, number);
             findMark(row, DATA_AT + data);
             if (!sameBytes(mark, row, DATA_AT + data)) {
