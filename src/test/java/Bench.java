@@ -10,6 +10,9 @@ final class Bench {
     static final int REFUSED = -1, NONE = -2, FULL = -3, DENIED = -4, LOCKED = -5, BROKEN = -6, WRONG = -7;
     static final int[] FAR = {Integer.MIN_VALUE, Integer.MIN_VALUE + 1, -1000, -3, -2, 1000, Integer.MAX_VALUE};
 
+    /** The least and the greatest number, which no call that names a thing takes. */
+    static final int LEAST = Integer.MIN_VALUE, MOST = Integer.MAX_VALUE;
+
     final MeasuredVault vault;
 
     Bench(int seed) {
@@ -142,5 +145,39 @@ final class Bench {
             vault.unlock();
         }
         return this;
+    }
+
+    /**
+     * Things under one AUTH, that of the word "things", and the POLICY of a session (-1: none): object 0 of three
+     * bytes, a PLAIN value 0 of four that are written, a COUNTER 1, a CHAIN 2. The owner is as at first, and THE KEY
+     * is the things' AUTH then.
+     */
+    Bench things(int s) {
+        key("");
+        for (int kind = 0; kind < 3; kind++) {
+            tape("things");
+            vault.define(kind, kind, 4, s);
+        }
+        key("things").sealed("abc", s);
+        tape("wxyz");
+        vault.write(0, 0, -1);
+        return this;
+    }
+
+    /** The call of a code, on the thing of the right kind. */
+    static int use(MeasuredVault v, int code, int by) {
+        switch (code) {
+            case 1: return v.unseal(0, by);
+            case 2: return v.write(0, 0, by);
+            case 3: return v.count(1, by);
+            case 4: return v.chain(2, by);
+            case 5: return v.read(0, by);
+            default: return v.shut(0, by);
+        }
+    }
+
+    /** What the first use by a code answers if it is good. */
+    static int good(int code) {
+        return new int[] {3, 0, 1, 0, 4, 0}[code - 1];
     }
 }

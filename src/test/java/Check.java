@@ -4,15 +4,21 @@ import java.util.Arrays;
 final class Check {
     private static int asked = 0;
     private static int wrong = 0;
+    private static String about = "";
 
     private Check() {
+    }
+
+    /** What is asked from here on is asked for these words; none to end it. */
+    static void about(String words) {
+        about = words.isEmpty() ? "" : words + ": ";
     }
 
     static void due(String what, long want, long got) {
         asked++;
         if (got != want) {
             wrong++;
-            System.out.println(what + " answered " + got + ", due is " + want);
+            System.out.println(about + what + " answered " + got + ", due is " + want);
         }
     }
 
@@ -20,7 +26,7 @@ final class Check {
         asked++;
         if (!Arrays.equals(want, got)) {
             wrong++;
-            System.out.println(what + " told " + Arrays.toString(got) + ", due is " + Arrays.toString(want));
+            System.out.println(about + what + " told " + Arrays.toString(got) + ", due is " + Arrays.toString(want));
         }
     }
 
@@ -28,8 +34,12 @@ final class Check {
         asked++;
         if (!good) {
             wrong++;
-            System.out.println("does not hold: " + what);
+            System.out.println(about + "does not hold: " + what);
         }
+    }
+
+    static int askedSoFar() {
+        return asked;
     }
 
     static int wrongSoFar() {

@@ -152,17 +152,6 @@ public final class SessionsTest {
         Check.due("CLOSED", Bench.REFUSED, b.vault.policyCode(1, 1));
     }
 
-    private static int use(MeasuredVault v, int code, int by) {
-        switch (code) {
-            case 1: return v.unseal(0, by);
-            case 2: return v.write(0, 0, by);
-            case 3: return v.count(1, by);
-            case 4: return v.chain(2, by);
-            case 5: return v.read(0, by);
-            default: return v.shut(0, by);
-        }
-    }
-
     private static void promise15Condition() {
         for (int told = 1; told <= 6; told++) {
             Bench b = new Bench(1);
@@ -177,7 +166,7 @@ public final class SessionsTest {
                 b.vault.open(0);
                 b.vault.policyCode(0, told);
                 int good = code == 3 ? 1 : code == 5 ? 4 : 0;
-                Check.due("code " + code + " by " + told, code == told ? good : Bench.WRONG, use(b.vault, code, 0));
+                Check.due("code " + code + " by " + told, code == told ? good : Bench.WRONG, Bench.use(b.vault, code, 0));
                 Check.due("CLOSED if good", code == told ? 0 : 1, b.vault.look(5));
             }
         }
