@@ -11,7 +11,8 @@ final class Asked {
     }
 
     static void by(String name, boolean readsTape, By call) {
-        refused(name + " by a CLOSED session", Bench.REFUSED, Twins.withKey(Scene.THINGS), readsTape, v -> call.on(v, 3));
+        refused(name + " by a CLOSED session", Bench.REFUSED, Twins.withKey(Scene.THINGS), readsTape,
+            v -> call.on(v, 3));
         for (int by : NO_SESSION) {
             refused(name + " by " + by, Bench.REFUSED, Twins.withKey(Scene.THINGS), readsTape, v -> call.on(v, by));
             refused(name + " by " + by + ", LOCKED or not", Bench.REFUSED, Twins.withKey(Scene.NOBODY).failures(4),
@@ -19,7 +20,8 @@ final class Asked {
         }
         for (int s = 0; s < 3; s++) {
             int by = s;
-            refused(name + " by session " + s, Bench.WRONG, Twins.withKey(Scene.THINGS), readsTape, v -> call.on(v, by));
+            refused(name + " by session " + s, Bench.WRONG, Twins.withKey(Scene.THINGS), readsTape,
+                v -> call.on(v, by));
         }
         denied(name, Scene.NOBODY, readsTape, v -> call.on(v, -1));
         locked(name, Scene.THINGS, readsTape, v -> call.on(v, -1));

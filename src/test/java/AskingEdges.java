@@ -14,27 +14,27 @@ final class AskingEdges {
     }
 
     static void tell(Sentences says) {
-        says.term("19 to 29", "THINGS (objects and values) have an AUTH, and a POLICY, 32 bytes; it is NO POLICY if all are 0.",
-            AskingEdges::noPolicy);
-        says.term("21, 25 to 29", "A call that says BY with a code asks of a thing: by -1: THE KEY is its AUTH: else DENIED, "
-            + "and FAILURES is 1 more", AskingEdges::byTheKey);
+        says.term("19 to 29", "THINGS (objects and values) have an AUTH, and a POLICY, 32 bytes; "
+            + "it is NO POLICY if all are 0.", AskingEdges::noPolicy);
+        says.term("21, 25 to 29", "A call that says BY with a code asks of a thing: by -1: THE KEY is its AUTH: "
+            + "else DENIED, and FAILURES is 1 more", AskingEdges::byTheKey);
         says.term("21, 25 to 29", "by a session: CLOSED: REFUSED", AskingEdges::byAClosedOne);
         says.term("21, 25 to 29", "else WRONG if the thing has NO POLICY", AskingEdges::byNoPolicy);
         says.term("21, 25 to 29", "or the DIGEST is not its POLICY", AskingEdges::byAnotherDigest);
-        says.term("13", "or a CONDITION is not as told: of registers: none of all registers was changed (by extend or reset) "
-            + "since it was told", AskingEdges::byRegisters);
+        says.term("13", "or a CONDITION is not as told: of registers: none of all registers was changed "
+            + "(by extend or reset) since it was told", AskingEdges::byRegisters);
         says.term("15", "of a code: this code", AskingEdges::byCode);
         says.term("16", "of a time: THE CLOCK is not above it", AskingEdges::byTime);
         says.term("14", "of the auth: as by -1 (DENIED, too, last of all).", AskingEdges::byAuth);
         says.term("21, 25 to 29", "A session BY which a call was, and that was good for it, is CLOSED then",
             AskingEdges::closedThen);
         says.term("19, 23", "(one whose DIGEST seal or define takes stays as it is).", AskingEdges::takenStays);
-        says.term("14, 21, 23 to 32", "LOCKED if FAILURES are 4 or more, before anything is compared with THE KEY (BY -1, by the "
-            + "condition of auth, and by the owner).", AskingEdges::locked);
+        says.term("14, 21, 23 to 32", "LOCKED if FAILURES are 4 or more, before anything is compared with THE KEY "
+            + "(BY -1, by the condition of auth, and by the owner).", AskingEdges::locked);
         says.term("21, 25 to 29", "BY another number: REFUSED.", AskingEdges::byAnotherNumber);
         says.term("21 to 32", "(What is told of a call comes first, BY and OWNER'S last.)", AskingEdges::askedLast);
-        says.term("23, 24, 30, 32", "OWNER'S calls ask: THE KEY is the owner's AUTH: else DENIED, and FAILURES is 1 more; LOCKED "
-            + "as told.", AskingEdges::askedOfTheOwner);
+        says.term("23, 24, 30, 32", "OWNER'S calls ask: THE KEY is the owner's AUTH: else DENIED, and FAILURES "
+            + "is 1 more; LOCKED as told.", AskingEdges::askedOfTheOwner);
     }
 
     /** A vault with the things of Bench under a policy of steps; session 0 has made those steps and is open. */
@@ -63,7 +63,8 @@ final class AskingEdges {
             Check.due("a DIGEST of 0 is NO POLICY, code " + code, Bench.WRONG, Bench.use(zero.vault, code, 0));
             Bench policy = under(TIME);
             Check.due("a POLICY, code " + code, Bench.good(code), Bench.use(policy.vault, code, 0));
-            Check.due("its AUTH, too, code " + code, Bench.good(code) + (code == 3 ? 1 : 0), Bench.use(policy.vault, code, -1));
+            Check.due("its AUTH, too, code " + code, code == 3 ? 2 : Bench.good(code),
+                Bench.use(policy.vault, code, -1));
         }
     }
 
@@ -104,7 +105,8 @@ final class AskingEdges {
             Check.due("no failure", 0, b.vault.look(0));
             follow(b, 0, TIME);
             b.vault.restart();
-            Check.due("after restart, code " + code, code == 1 ? Bench.NONE : Bench.REFUSED, Bench.use(b.vault, code, 0));
+            Check.due("after restart, code " + code, code == 1 ? Bench.NONE : Bench.REFUSED,
+                Bench.use(b.vault, code, 0));
         }
     }
 
@@ -192,8 +194,8 @@ final class AskingEdges {
             for (int code = 1; code <= 6; code++) {
                 int which = told;
                 Bench b = under(AUTH, (v, s) -> v.policyCode(s, which), TIME);
-                boolean good = code == told;
-                Check.due("code " + code + " of " + told, good ? Bench.good(code) : Bench.WRONG, Bench.use(b.vault, code, 0));
+                Check.due("code " + code + " of " + told, code == told ? Bench.good(code) : Bench.WRONG,
+                    Bench.use(b.vault, code, 0));
                 Check.due("no failure", 0, b.vault.look(0));
             }
         }
@@ -303,7 +305,8 @@ final class AskingEdges {
                 boolean locks = failures >= 4;
                 Bench key = under(AUTH);
                 key.fail(failures).key(Scene.THINGS);
-                Check.due("by -1 after " + failures, locks ? Bench.LOCKED : Bench.good(code), Bench.use(key.vault, code, -1));
+                Check.due("by -1 after " + failures, locks ? Bench.LOCKED : Bench.good(code),
+                    Bench.use(key.vault, code, -1));
                 Check.due("FAILURES stay", failures, key.vault.look(0));
                 Bench auth = under(AUTH);
                 auth.fail(failures).key(Scene.THINGS);

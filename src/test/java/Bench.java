@@ -129,6 +129,13 @@ final class Bench {
         return out();
     }
 
+    /** What look tells of 0 to 7. */
+    void looks(String when, int... want) {
+        for (int what = 0; what < want.length; what++) {
+            Check.due(when + ": look(" + what + ")", want[what], vault.look(what));
+        }
+    }
+
     /** Seals a word under a session's digest and loads it again; answers the object's number. */
     int sealed(String word, int s) {
         vault.end(0);

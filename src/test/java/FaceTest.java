@@ -4,6 +4,7 @@ import java.lang.reflect.Method;
 import java.lang.reflect.Modifier;
 import java.nio.file.Files;
 import java.nio.file.Path;
+import java.util.List;
 import java.util.Set;
 import java.util.TreeSet;
 import java.util.regex.Matcher;
@@ -29,7 +30,12 @@ public final class FaceTest {
         methods();
         constructors();
         nestedClasses();
+        everyClass(MeasuredVault.class);
+        for (Class<?> nested : MeasuredVault.class.getDeclaredClasses()) {
+            everyClass(nested);
+        }
         text();
+        methodLengths();
         Check.finish("FaceTest");
     }
 
@@ -85,11 +91,50 @@ public final class FaceTest {
         for (Class<?> each : nested) {
             Check.holds(each + " is static", Modifier.isStatic(each.getModifiers()));
             Check.holds(each + " is not open", !Modifier.isPublic(each.getModifiers()));
-            for (Field field : each.getDeclaredFields()) {
-                Check.holds(field + " is no static state",
-                    !Modifier.isStatic(field.getModifiers()) || Modifier.isFinal(field.getModifiers()));
+            Check.due(each + " has no class inside", 0, each.getDeclaredClasses().length);
+        }
+    }
+
+    /** Rules 1, 5, 6 and 11, for the class and for each one inside it. */
+    private static void everyClass(Class<?> each) {
+        int fields = 0;
+        for (Field field : each.getDeclaredFields()) {
+            boolean constant = Modifier.isStatic(field.getModifiers());
+            fields += constant ? 0 : 1;
+            Check.holds(field + " is no static state", !constant || Modifier.isFinal(field.getModifiers()));
+            Check.holds(field + " is a number or a row of numbers, if a constant", !constant
+                || Set.of(int.class, long.class, boolean.class, int[].class, long[].class).contains(field.getType()));
+        }
+        Check.holds(each + " has some twenty fields: " + fields, fields <= 20);
+        Set<String> face = new TreeSet<>();
+        for (String method : METHODS) {
+            face.add(method.split(" ")[0]);
+        }
+        for (Method method : each.getDeclaredMethods()) {
+            Check.holds(method + " takes at most seven", method.getParameterCount() <= 7);
+            Check.holds(method + " is none of every object's",
+                !Set.of("equals", "hashCode", "toString", "finalize").contains(method.getName()));
+            Check.holds(method + " does not bear a public method's name",
+                Modifier.isPublic(method.getModifiers()) || !face.contains(method.getName()));
+        }
+    }
+
+    /** Rule 11: some sixty lines. A method's text ends with a brace that stands as far in as its head. */
+    private static void methodLengths() throws Exception {
+        List<String> lines = Files.readAllLines(Path.of("src/main/java/MeasuredVault.java"));
+        int methods = 0;
+        for (int i = 0; i < lines.size(); i++) {
+            Matcher head = Pattern.compile("^( {4}| {8})[^ /*].*\\) \\{$").matcher(lines.get(i));
+            if (head.find() && !lines.get(i).trim().matches("(if|for|while|switch) .*")) {
+                int length = 1;
+                while (i + length < lines.size() && !lines.get(i + length).equals(head.group(1) + "}")) {
+                    length++;
+                }
+                methods++;
+                Check.holds("some sixty lines at most, not " + length + ":" + lines.get(i), length <= 60);
             }
         }
+        Check.holds("methods were found: " + methods, methods > METHODS.length);
     }
 
     private static void text() throws Exception {
@@ -97,7 +142,7 @@ public final class FaceTest {
             .replaceAll("(?s)/\\*.*?\\*/", "").replaceAll("//[^\n]*", "");
         Matcher banned = Pattern.compile(
             "\\b(throw|throws|try|catch|synchronized|assert|package|protected|float|double|native|Thread|Random)\\b"
-            + "|->|::|Exact\\(").matcher(code);
+            + "|->|::|Exact\\(|while *\\(true|for *\\(;").matcher(code);
         Check.holds("no word that LANGUAGE.md rules out", !banned.find());
         Matcher imports = Pattern.compile("import ([^;]*);").matcher(code);
         while (imports.find()) {

@@ -1,3 +1,5 @@
+import java.util.Arrays;
+
 /** Promises 30 to 35, sentence by sentence: own, unlock, clear, tick, restart, look. */
 public final class OwnerEdgesTest {
     private static final byte[] ZERO = new byte[32];
@@ -132,10 +134,7 @@ public final class OwnerEdgesTest {
         byte[] out = b.out();
         b.fail(3).key(Scene.OWNER).tape("stays");
         Check.due("clear", 0, b.vault.clear());
-        int[] looks = {3, Scene.CLOCK, 1, 3, 0, 3, 0, 5};
-        for (int what = 0; what < looks.length; what++) {
-            Check.due("look(" + what + ")", looks[what], b.vault.look(what));
-        }
+        b.looks("after clear", 3, Scene.CLOCK, 1, 3, 0, 3, 0, 5);
         Check.due("OUT", out, b.out());
         Check.due("registers", state, b.state(255));
         for (int s = 0; s < 3; s++) {
@@ -144,8 +143,9 @@ public final class OwnerEdgesTest {
         b.vault.hash();
         Check.due("the TAPE", Bench.h(Bench.text("stays")), b.out());
         b.vault.seal(-1);
-        Check.due("THE KEY, and blobs made", Bench.blob(Bench.h(Bench.seedOf(31)), 3, ZERO, Bench.h(Bench.text(Scene.OWNER)),
-            0, new byte[0]), b.out());
+        byte[] key = Bench.h(Bench.text(Scene.OWNER));
+        byte[] seed = Bench.h(Bench.seedOf(31));
+        Check.due("THE KEY, and blobs made", Bench.blob(seed, 3, ZERO, key, 0, new byte[0]), b.out());
         b.vault.key();
         b.vault.define(0, 1, 0, -1);
         Check.due("THE GREATEST", 4, b.vault.count(0, -1));
@@ -170,7 +170,7 @@ public final class OwnerEdgesTest {
         for (int n : ticks) {
             b.vault.tick(n);
         }
-        Check.due(failures + " FAILURES after " + java.util.Arrays.toString(ticks), want, b.vault.look(0));
+        Check.due(failures + " FAILURES after " + Arrays.toString(ticks), want, b.vault.look(0));
     }
 
     private static void tickForgives() {
@@ -183,12 +183,16 @@ public final class OwnerEdgesTest {
         forgives(4, 5, 99, 2);
         forgives(4, 5, 100, 0);
         forgives(4, 5, 100, 99);
+        forgives(4, 5, 100, 0, 99);
+        forgives(3, 5, 100, 0, 100);
         forgives(3, 5, 100, 100);
         forgives(4, 5, 199);
         forgives(3, 5, 200);
         forgives(3, 5, 50, 150);
         forgives(4, 5, 50, 149);
         forgives(3, 5, 99, 101);
+        forgives(3, 5, 99, 102);
+        forgives(3, 5, 199, 1);
         forgives(1, 5, 499);
         forgives(0, 5, 500);
         forgives(0, 5, 600);
@@ -263,10 +267,7 @@ public final class OwnerEdgesTest {
         byte[] out = b.out();
         b.fail(3).key(Scene.THINGS).tape("stays");
         Check.due("restart", 2, b.vault.restart());
-        int[] looks = {3, Scene.CLOCK, 2, 4, 0, 0, 7, 5};
-        for (int what = 0; what < looks.length; what++) {
-            Check.due("look(" + what + ")", looks[what], b.vault.look(what));
-        }
+        b.looks("after restart", 3, Scene.CLOCK, 2, 4, 0, 0, 7, 5);
         Check.due("OUT stays", out, b.out());
         Check.due("registers", Bench.h(new byte[256]), b.state(255));
         for (int i = 0; i < 4; i++) {
@@ -289,27 +290,20 @@ public final class OwnerEdgesTest {
     }
 
     private static void looked() {
-        MeasuredVault fresh = new MeasuredVault(6);
-        for (int what = 0; what < 8; what++) {
-            Check.due("at first: look(" + what + ")", 0, fresh.look(what));
-        }
+        new Bench(6).looks("at first", 0, 0, 0, 0, 0, 0, 0, 0);
         Bench b = Scene.make();
         b.fail(5).key(Scene.NOBODY).tape(Bench.row(400));
-        int[] scene = {5, Scene.CLOCK, 1, 3, 3, 3, 7, 400};
-        for (int what = 0; what < 8; what++) {
-            Check.due("look(" + what + ")", scene[what], b.vault.look(what));
-        }
+        b.looks("of some", 5, Scene.CLOCK, 1, 3, 3, 3, 7, 400);
         b.key(Scene.OWNER).vault.unlock();
         b.vault.open(3);
         b.vault.define(7, 1, 0, -1);
         b.sealed("fourth", -1);
         b.sealed("no fifth", -1);
-        int[] most = {0, Scene.CLOCK, 1, 5, 4, 4, 8, 0};
+        b.looks("of the most", 0, Scene.CLOCK, 1, 5, 4, 4, 8, 0);
+        int[] told = {2, Scene.CLOCK, 1, 3, 3, 3, 7, 4};
         for (int what = 0; what < 8; what++) {
             int which = what;
-            Check.due("look(" + what + ")", most[what], b.vault.look(what));
-            Twins.withKey(Scene.NOBODY).leave("look(" + what + ")", new int[] {2, Scene.CLOCK, 1, 3, 3, 3, 7, 4}[what],
-                v -> v.look(which));
+            Twins.withKey(Scene.NOBODY).leave("look(" + what + ")", told[what], v -> v.look(which));
         }
     }
 

@@ -9,9 +9,6 @@ public final class OwnerTest {
         promise32Clear();
         promise32Denied();
         promise33Tick();
-        promise33Failures();
-        promise33Refused();
-        promise33LastTime();
         promise34Restart();
         promise34Stays();
         promise35Look();
@@ -84,10 +81,7 @@ public final class OwnerTest {
         b.fail(2);
         b.key("own").tape("stays");
         Check.due("clear", 0, b.vault.clear());
-        int[] want = {2, 7, 0, 2, 0, 1, 0, 5};
-        for (int what = 0; what < want.length; what++) {
-            Check.due("after clear: look(" + what + ")", want[what], b.vault.look(what));
-        }
+        b.looks("after clear", 2, 7, 0, 2, 0, 1, 0, 5);
         Check.due("OUT stays", digest, b.out());
         Check.due("registers stay", state, b.state(255));
         Check.due("sessions stay", digest, b.digest(2));
@@ -134,60 +128,6 @@ public final class OwnerTest {
         Check.due("look(1)", 100100, b.vault.look(1));
     }
 
-    private static void failuresAfter(int want, int failures, int... ticks) {
-        Bench b = new Bench(6);
-        b.fail(failures);
-        for (int n : ticks) {
-            b.vault.tick(n);
-        }
-        Check.due(failures + " failures after " + java.util.Arrays.toString(ticks), want, b.vault.look(0));
-    }
-
-    private static void promise33Failures() {
-        failuresAfter(5, 5, 0);
-        failuresAfter(5, 5, 99);
-        failuresAfter(4, 5, 100);
-        failuresAfter(4, 5, 101);
-        failuresAfter(4, 5, 199);
-        failuresAfter(3, 5, 200);
-        failuresAfter(4, 5, 99, 1);
-        failuresAfter(4, 5, 100, 0);
-        failuresAfter(4, 5, 100, 0, 99);
-        failuresAfter(3, 5, 100, 0, 100);
-        failuresAfter(3, 5, 50, 150);
-        failuresAfter(3, 5, 99, 102);
-        failuresAfter(1, 5, 499);
-        failuresAfter(0, 5, 500);
-        failuresAfter(0, 5, 100000);
-        failuresAfter(0, 0, 100000);
-        failuresAfter(3, 5, 199, 1);
-    }
-
-    private static void promise33Refused() {
-        Bench b = new Bench(6);
-        b.fail(2);
-        b.vault.tick(99);
-        for (int n : new int[] {-1, 100001, -100, Integer.MIN_VALUE, Integer.MAX_VALUE, 2000000000}) {
-            Check.due("tick(" + n + ")", Bench.REFUSED, b.vault.tick(n));
-        }
-        Check.due("THE CLOCK stays", 99, b.vault.look(1));
-        Check.due("failures stay", 2, b.vault.look(0));
-    }
-
-    /** No object comes so far in its 512 calls; the class keeps the clock from running over all the same. */
-    private static void promise33LastTime() {
-        MeasuredVault v = new MeasuredVault(6);
-        for (int i = 1; i < 20000; i++) {
-            v.tick(100000);
-        }
-        Check.due("tick(99999)", 1999999999, v.tick(99999));
-        Check.due("tick(2)", Bench.REFUSED, v.tick(2));
-        Check.due("tick(1)", 2000000000, v.tick(1));
-        Check.due("tick(1)", Bench.REFUSED, v.tick(1));
-        Check.due("tick(0)", 2000000000, v.tick(0));
-        Check.due("look(1)", 2000000000, v.look(1));
-    }
-
     private static void promise34Restart() {
         Bench b = new Bench(6);
         for (int r = 0; r < 8; r++) {
@@ -228,10 +168,7 @@ public final class OwnerTest {
         b.fail(3);
         b.key("own").tape("tape");
         Check.due("restart", 1, b.vault.restart());
-        int[] want = {3, 150, 1, 1, 0, 0, 2, 4};
-        for (int what = 0; what < want.length; what++) {
-            Check.due("after restart: look(" + what + ")", want[what], b.vault.look(what));
-        }
+        b.looks("after restart", 3, 150, 1, 1, 0, 0, 2, 4);
         Check.due("OUT stays", blob, b.out());
         Check.due("THE KEY and the owner stay", 0, b.vault.undefine(1));
         b.vault.key();

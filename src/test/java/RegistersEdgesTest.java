@@ -86,7 +86,8 @@ public final class RegistersEdgesTest {
             b.tape("r" + r).vault.extend(r);
             held[r] = Bench.h(ZERO, Bench.h(Bench.text("r" + r)));
         }
-        for (int set : new int[] {0, 1, 128, 129, 255, 256, 257, 384, 511, -1, -256, -255, -128, Bench.LEAST, Bench.MOST}) {
+        int[] sets = {0, 1, 128, 129, 255, 256, 257, 384, 511, -1, -256, -255, -128, Bench.LEAST, Bench.MOST};
+        for (int set : sets) {
             byte[] all = {};
             for (int r = 0; r < 8; r++) {
                 all = (set & 1 << r) != 0 ? Bench.cat(all, held[r]) : all;

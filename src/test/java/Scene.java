@@ -1,4 +1,5 @@
 import java.util.ArrayList;
+import java.util.Arrays;
 import java.util.List;
 
 /** A vault that holds some of all that the document speaks of, and a way to have all of it told. */
@@ -55,9 +56,9 @@ final class Scene {
     static List<String> tell(Bench b) {
         List<String> told = new ArrayList<>();
         looks(b, told);
-        told.add("OUT " + java.util.Arrays.toString(b.out()));
+        told.add("OUT " + Arrays.toString(b.out()));
         b.vault.hash();
-        told.add("H(TAPE) " + java.util.Arrays.toString(b.out()));
+        told.add("H(TAPE) " + Arrays.toString(b.out()));
         told.add("a blob by THE KEY " + b.vault.seal(-1));
         gist(b, told);
         told.add("a quote " + b.vault.quote(255));
@@ -89,7 +90,7 @@ final class Scene {
     private static void gist(Bench b, List<String> told) {
         b.vault.back();
         b.vault.hash();
-        told.add("H of that " + java.util.Arrays.toString(b.out()));
+        told.add("H of that " + Arrays.toString(b.out()));
     }
 
     private static void conditions(Bench b, List<String> told) {

@@ -22,7 +22,8 @@ public final class SealedEdgesTest {
         says.promise(20, "BROKEN if it is none of this module's (M is another", SealedEdgesTest::loadOfOthers);
         says.promise(20, "or d has not as many bytes as its byte tells)", SealedEdgesTest::loadOfOtherSizes);
         says.promise(20, "then FULL if no number is free.", SealedEdgesTest::loadIsFull);
-        says.promise(21, "BY, code 1: OUT becomes the data of an object: how many bytes.", SealedEdgesTest::unsealOfEdges);
+        says.promise(21, "BY, code 1: OUT becomes the data of an object: how many bytes.",
+            SealedEdgesTest::unsealOfEdges);
         says.promise(21, "NONE if there is none.", SealedEdgesTest::unsealOfNone);
         says.promise(22, "An object is free: 0.", SealedEdgesTest::flushFrees);
         says.promise(22, "NONE if it is.", SealedEdgesTest::flushOfNone);

@@ -232,7 +232,8 @@ public final class SessionsEdgesTest {
     private static void codeToldAgain() {
         for (int code = 1; code <= 6; code++) {
             int again = code;
-            Twins.withKey(Scene.NOBODY).leave("policyCode(1, " + code + ")", Bench.REFUSED, v -> v.policyCode(1, again));
+            Twins.withKey(Scene.NOBODY)
+                .leave("policyCode(1, " + code + ")", Bench.REFUSED, v -> v.policyCode(1, again));
         }
         Bench b = new Bench(1);
         b.vault.open(0);
@@ -266,7 +267,8 @@ public final class SessionsEdgesTest {
     }
 
     private static void timeOfTheLeast() {
-        int[][] least = {{20}, {20, 20}, {20, 21}, {21, 20}, {30, 20, 25}, {20, 25, 30}, {30, 25, 20}, {20, Bench.MOST}};
+        int[][] least = {{20}, {20, 20}, {20, 21}, {21, 20}, {30, 20, 25}, {20, 25, 30}, {30, 25, 20},
+            {20, Bench.MOST}};
         for (int[] times : least) {
             Check.due("THE CLOCK is 19", 3, timed(19, times));
             Check.due("THE CLOCK is 20", 3, timed(20, times));
@@ -336,7 +338,8 @@ public final class SessionsEdgesTest {
             b.tape(MINE).tape(MINE);
         }).leaveButTape("policyOr of one that was used", Bench.REFUSED, v -> v.policyOr(2));
         for (int s : NO_SESSION) {
-            Twins.withKey(Scene.NOBODY).tape(tape).leaveButTape("policyOr(" + s + ")", Bench.REFUSED, v -> v.policyOr(s));
+            Twins.withKey(Scene.NOBODY).tape(tape)
+                .leaveButTape("policyOr(" + s + ")", Bench.REFUSED, v -> v.policyOr(s));
         }
     }
 

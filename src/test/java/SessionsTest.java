@@ -166,7 +166,8 @@ public final class SessionsTest {
                 b.vault.open(0);
                 b.vault.policyCode(0, told);
                 int good = code == 3 ? 1 : code == 5 ? 4 : 0;
-                Check.due("code " + code + " by " + told, code == told ? good : Bench.WRONG, Bench.use(b.vault, code, 0));
+                Check.due("code " + code + " by " + told, code == told ? good : Bench.WRONG,
+                    Bench.use(b.vault, code, 0));
                 Check.due("CLOSED if good", code == told ? 0 : 1, b.vault.look(5));
             }
         }

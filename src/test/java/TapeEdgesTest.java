@@ -2,7 +2,8 @@ import java.util.Arrays;
 
 /** Promises 1 to 7, sentence by sentence: a new object, feed, end, octet, back, hash, key. */
 public final class TapeEdgesTest {
-    private static final int[] EXTREMES = {0, 1, -1, 127, 128, 255, 256, 0x01000000, 0x80000001, Bench.LEAST, Bench.MOST};
+    private static final int[] EXTREMES = {0, 1, -1, 127, 128, 255, 256, 0x01000000, 0x80000001, Bench.LEAST,
+        Bench.MOST};
 
     private TapeEdgesTest() {
     }

@@ -1,3 +1,4 @@
+import java.util.Arrays;
 import java.util.HexFormat;
 
 /** What the document says under "Terms" of bytes, blobs and of what there is at first, sentence by sentence. */
@@ -12,31 +13,33 @@ public final class TermsEdgesTest {
         says.words("What it is", "1 to 35", "An object is used for at most 512 calls after it has been made",
             TermsEdgesTest::lastCall);
         says.term("2, 3, 5", "THE TAPE has bytes, none at first, at most 400", TermsEdgesTest::tapeHasBytes);
-        says.term("6, 7, 8, 11, 17, 19, 20, 23, 25, 27, 30", "calls that read it (hash, key, extend, quote, policyOr, seal, "
-            + "load, define, write, chain, own) empty it, whatever they answer.", TapeReaders::emptyIt);
+        says.term("6, 7, 8, 11, 17, 19, 20, 23, 25, 27, 30", "calls that read it (hash, key, extend, quote, policyOr, "
+            + "seal, load, define, write, chain, own) empty it, whatever they answer.", TapeReaders::emptyIt);
         says.term("4, 11, 18, 19, 21, 28", "OUT has bytes, none at first; it stays by calls that refuse.",
             TermsEdgesTest::outStays);
         says.term("6", "H(x): SHA-256 of bytes x: 32 bytes.", TermsEdgesTest::knownHashes);
-        says.term("11, 19", "MAC(k, x), k of 32 bytes: H(k' H(k\" x)), k\" being k and 32 bytes 0, each byte with 54 by "
-            + "exclusive or, k' the same with 92.", TermsEdgesTest::macByItsWords);
-        says.term("2, 11, 16", "Numbers in bytes: the highest first. x y: one behind the other.", TermsEdgesTest::highestFirst);
+        says.term("11, 19", "MAC(k, x), k of 32 bytes: H(k' H(k\" x)), k\" being k and 32 bytes 0, each byte with 54 "
+            + "by exclusive or, k' the same with 92.", TermsEdgesTest::macByItsWords);
+        says.term("2, 11, 16", "Numbers in bytes: the highest first. x y: one behind the other.",
+            TermsEdgesTest::highestFirst);
         says.term("1", "THE SEED: 32 bytes: H of the bytes 83, 69, 69, 68 and 4 bytes of what the module is made with.",
             TermsEdgesTest::seedByItsWords);
         says.term("31, 33, 34", "THE CLOCK, 0 at first; RESTARTS, 0 at first; FAILURES, 0 at first.",
             TermsEdgesTest::countsAtFirst);
         says.term("7", "THE KEY: 32 bytes: H of what key told; H of no bytes at first.", TermsEdgesTest::keyAtFirst);
         says.term("30", "THE OWNER has an AUTH, 32 bytes: at first H of no bytes.", TermsEdgesTest::ownerAtFirst);
-        says.term("8 to 11", "REGISTERS 0 to 7: 32 bytes each, 0 at first. STATE of a set of them (bits 0 to 7): H of them, "
-            + "by rising numbers, one behind the other.", TermsEdgesTest::registersAtFirst);
+        says.term("8 to 11", "REGISTERS 0 to 7: 32 bytes each, 0 at first. STATE of a set of them (bits 0 to 7): "
+            + "H of them, by rising numbers, one behind the other.", TermsEdgesTest::registersAtFirst);
         says.term("12 to 18", "SESSIONS 0 to 3: CLOSED, as at first, or open: with a DIGEST, 32 bytes, and CONDITIONS.",
             TermsEdgesTest::sessionsAtFirst);
-        says.term("19, 20", "BLOB of data (0 to 128 bytes d), an AUTH a and a POLICY p: N, 4 bytes, how many blobs were made "
-            + "before; p; C; M:", TermsEdgesTest::blobsInTheirOrder);
-        says.term("19", "C is a, one byte, how many bytes d has, and d, each byte by exclusive or with the byte of its place "
-            + "in H(E 0) H(E 1) .. (the last one a byte), E = MAC(SEED, the byte 69 and N)", TermsEdgesTest::coverByItsWords);
+        says.term("19, 20", "BLOB of data (0 to 128 bytes d), an AUTH a and a POLICY p: N, 4 bytes, how many blobs "
+            + "were made before; p; C; M:", TermsEdgesTest::blobsInTheirOrder);
+        says.term("19", "C is a, one byte, how many bytes d has, and d, each byte by exclusive or with the byte of its "
+            + "place in H(E 0) H(E 1) .. (the last one a byte), E = MAC(SEED, the byte 69 and N)",
+            TermsEdgesTest::coverByItsWords);
         says.term("19", "M = MAC(MAC(SEED, the byte 77 and N), N p C).", TermsEdgesTest::markByItsWords);
-        says.term("23 to 29", "VALUES 0 to 7: none at first; each has a KIND: 0 PLAIN, 1 to 64 bytes; 1 COUNTER, 8 bytes; "
-            + "2 CHAIN, 32 bytes; it is UNWRITTEN at first; it may be SHUT (till the next restart).",
+        says.term("23 to 29", "VALUES 0 to 7: none at first; each has a KIND: 0 PLAIN, 1 to 64 bytes; 1 COUNTER, "
+            + "8 bytes; 2 CHAIN, 32 bytes; it is UNWRITTEN at first; it may be SHUT (till the next restart).",
             TermsEdgesTest::valuesAtFirst);
         says.term("26", "THE GREATEST: of all numbers that counters had, 0 at first.", TermsEdgesTest::greatestAtFirst);
         AskingEdges.tell(says);
@@ -248,7 +251,7 @@ public final class TermsEdgesTest {
     }
 
     private static byte[] numberOf(Bench b) {
-        return java.util.Arrays.copyOf(b.out(), 4);
+        return Arrays.copyOf(b.out(), 4);
     }
 
     private static void blobsInTheirOrder() {
@@ -297,10 +300,11 @@ public final class TermsEdgesTest {
             b.vault.policyAuth(0);
             b.tape(Bench.row(n)).vault.seal(0);
             byte[] blob = b.out();
-            byte[] before = java.util.Arrays.copyOf(blob, 69 + n);
+            byte[] before = Arrays.copyOf(blob, 69 + n);
             byte[] key = mac(Bench.seedOf(8), Bench.one(77), Bench.four(0));
             Check.due("M", Bench.cat(before, mac(key, before)), blob);
-            Check.due("N and p", Bench.cat(new byte[4], Bench.h(ZERO, Bench.one(2))), java.util.Arrays.copyOf(blob, 36));
+            byte[] policy = Bench.h(ZERO, Bench.one(2));
+            Check.due("N and p", Bench.cat(new byte[4], policy), Arrays.copyOf(blob, 36));
         }
     }
 

@@ -1,3 +1,5 @@
+import java.util.Arrays;
+
 /** Promises 23 to 29, sentence by sentence: define, undefine, write, count, chain, read, shut. */
 public final class ValuesEdgesTest {
     private static final byte[] ZERO = new byte[32];
@@ -18,7 +20,8 @@ public final class ValuesEdgesTest {
         says.promise(26, "its number's lowest 31 bits.", ValuesEdgesTest::countAnswers);
         says.promise(26, "NONE if there is none, or of another kind", ValuesEdgesTest::countOfNone);
         says.promise(26, "FULL if SHUT.", ValuesEdgesTest::countOfShut);
-        says.promise(27, "BY, code 4: a CHAIN becomes H(it (32 bytes 0 at first), the TAPE): 0.", ValuesEdgesTest::chained);
+        says.promise(27, "BY, code 4: a CHAIN becomes H(it (32 bytes 0 at first), the TAPE): 0.",
+            ValuesEdgesTest::chained);
         says.promise(27, "NONE, FULL likewise.", ValuesEdgesTest::chainOfNoneAndShut);
         says.promise(28, "BY, code 5: OUT becomes the bytes of a value: how many.", ValuesEdgesTest::readOfEdges);
         says.promise(28, "NONE if there is none", ValuesEdgesTest::readOfNone);
@@ -206,13 +209,14 @@ public final class ValuesEdgesTest {
     }
 
     private static void written() {
-        int[][] good = {{1, 0, 1}, {2, 1, 1}, {8, 0, 8}, {8, 0, 1}, {8, 7, 1}, {8, 4, 4}, {64, 0, 64}, {64, 63, 1}, {64, 1, 63}};
+        int[][] good = {{1, 0, 1}, {2, 1, 1}, {8, 0, 8}, {8, 0, 1}, {8, 7, 1}, {8, 4, 4}, {64, 0, 64}, {64, 63, 1},
+            {64, 1, 63}};
         for (int[] each : good) {
             Bench b = plain(each[0]);
             b.tape(Bench.row(each[0])).vault.write(0, 0, -1);
             byte[] want = Bench.row(each[0]);
             byte[] part = new byte[each[2]];
-            java.util.Arrays.fill(part, (byte) 255);
+            Arrays.fill(part, (byte) 255);
             System.arraycopy(part, 0, want, each[1], each[2]);
             b.tape(part);
             Check.due("write of " + each[2] + " at " + each[1] + " of " + each[0], 0, b.vault.write(0, each[1], -1));
@@ -265,7 +269,8 @@ public final class ValuesEdgesTest {
             for (int at : new int[] {0, 99}) {
                 Twins.withKey(Scene.NOBODY).leaveButTape("write(7)", Bench.NONE, v -> v.write(7, at, by));
                 for (int value : NO_VALUE) {
-                    Twins.withKey(Scene.NOBODY).leaveButTape("write(" + value + ")", Bench.NONE, v -> v.write(value, at, by));
+                    Twins.withKey(Scene.NOBODY)
+                        .leaveButTape("write(" + value + ")", Bench.NONE, v -> v.write(value, at, by));
                 }
             }
         }
@@ -285,8 +290,9 @@ public final class ValuesEdgesTest {
     }
 
     private static void writeOutside() {
-        int[][] outside = {{4, 5}, {4, 8}, {4, 9}, {4, -1}, {4, -4}, {4, Bench.LEAST}, {4, Bench.MOST}, {4, Bench.MOST - 3},
-            {1, 8}, {1, 9}, {8, 1}, {9, 0}, {9, -1}, {0, 9}, {0, -1}, {0, Bench.MOST}, {400, 0}, {256, 0}, {264, -256}};
+        int[][] outside = {{4, 5}, {4, 8}, {4, 9}, {4, -1}, {4, -4}, {4, Bench.LEAST}, {4, Bench.MOST},
+            {4, Bench.MOST - 3}, {1, 8}, {1, 9}, {8, 1}, {9, 0}, {9, -1}, {0, 9}, {0, -1}, {0, Bench.MOST},
+            {400, 0}, {256, 0}, {264, -256}};
         for (int[] each : outside) {
             for (int by : BYS) {
                 String what = each[0] + " bytes at " + each[1] + " by " + by;
@@ -300,7 +306,8 @@ public final class ValuesEdgesTest {
         }
         for (int[] inside : new int[][] {{4, 4}, {1, 7}, {8, 0}, {0, 8}}) {
             Bench b = Scene.make();
-            Check.due(inside[0] + " bytes at " + inside[1], 0, b.tape(Bench.row(inside[0])).vault.write(0, inside[1], -1));
+            b.tape(Bench.row(inside[0]));
+            Check.due(inside[0] + " bytes at " + inside[1], 0, b.vault.write(0, inside[1], -1));
         }
     }
 
@@ -388,7 +395,8 @@ public final class ValuesEdgesTest {
         for (int by : BYS) {
             for (int value : new int[] {7, 0, 2, 3, 5}) {
                 Twins.withKey(Scene.THINGS).leave("count(" + value + ")", Bench.NONE, v -> v.count(value, by));
-                Twins.withKey(Scene.NOBODY).failures(4).leave("count(" + value + ")", Bench.NONE, v -> v.count(value, by));
+                Twins.withKey(Scene.NOBODY).failures(4)
+                    .leave("count(" + value + ")", Bench.NONE, v -> v.count(value, by));
             }
             for (int value : NO_VALUE) {
                 Twins.withKey(Scene.NOBODY).leave("count(" + value + ")", Bench.NONE, v -> v.count(value, by));
@@ -486,7 +494,8 @@ public final class ValuesEdgesTest {
             for (int value = 3; value <= 4; value++) {
                 int which = value;
                 Twins.withKey(Scene.THINGS).leave("read(" + value + ")", Bench.FULL, v -> v.read(which, by));
-                Twins.withKey(Scene.NOBODY).failures(4).leave("read(" + value + ")", Bench.FULL, v -> v.read(which, by));
+                Twins.withKey(Scene.NOBODY).failures(4)
+                    .leave("read(" + value + ")", Bench.FULL, v -> v.read(which, by));
             }
         }
         Bench b = new Bench(2);

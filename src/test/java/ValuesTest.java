@@ -17,7 +17,6 @@ public final class ValuesTest {
         promise25Edges();
         promise25Order();
         promise26Count();
-        promise26Greatest();
         promise26Order();
         promise27Chain();
         promise27Order();
@@ -237,26 +236,6 @@ public final class ValuesTest {
         Check.due("the tape stays", 5, b.vault.look(7));
         Check.due("read", 8, b.vault.read(0, -1));
         Check.due("its 8 bytes", Bench.cat(Bench.four(0), Bench.four(300)), b.out());
-    }
-
-    private static void promise26Greatest() {
-        Bench b = new Bench(2);
-        b.vault.define(0, 1, 0, -1);
-        b.vault.define(1, 1, 0, -1);
-        Check.due("the first", 1, b.vault.count(0, -1));
-        Check.due("the first, again", 2, b.vault.count(0, -1));
-        Check.due("1 more than THE GREATEST", 3, b.vault.count(1, -1));
-        Check.due("1 more than it was", 3, b.vault.count(0, -1));
-        Check.due("1 more than it was", 4, b.vault.count(0, -1));
-        Check.due("1 more than it was", 4, b.vault.count(1, -1));
-        b.vault.undefine(0);
-        b.vault.undefine(1);
-        b.vault.define(1, 1, 0, -1);
-        Check.due("of all that counters had", 5, b.vault.count(1, -1));
-        b.vault.clear();
-        b.vault.restart();
-        b.vault.define(7, 1, 0, -1);
-        Check.due("it stays by clear and restart", 6, b.vault.count(7, -1));
     }
 
     private static void promise26Order() {
