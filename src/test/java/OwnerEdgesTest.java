@@ -278,6 +278,8 @@ public final class OwnerEdgesTest {
         for (int i = 0; i < 7; i++) {
             Check.due("value " + i + " stays", sizes[i], b.vault.read(i, -1));
         }
+        b.vault.read(0, -1);
+        Check.due("its bytes", new byte[] {0, 0, 'a', 'b', 0, 0, 0, 0}, b.out());
         b.vault.end(0);
         int[] answers = {b.vault.write(0, 0, -1), b.vault.count(1, -1), b.vault.chain(2, -1), b.vault.write(3, 0, -1),
             b.vault.count(4, -1), b.vault.write(5, 0, -1), b.vault.count(6, -1)};

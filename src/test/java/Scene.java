@@ -72,7 +72,6 @@ final class Scene {
         gist(b, told);
         b.key(OWNER);
         told.add("unlock by the owner " + b.vault.unlock());
-        b.key(THINGS);
         conditions(b, told);
         things(b, told);
         changes(b, told);
@@ -93,10 +92,13 @@ final class Scene {
         told.add("H of that " + Arrays.toString(b.out()));
     }
 
+    /** THE KEY is not the things' at first, so that a condition of the auth would be seen where none was told. */
     private static void conditions(Bench b, List<String> told) {
         b.vault.tick(LATEST - CLOCK);
         told.add("value 5 by a code and a time " + b.vault.read(5, 1));
         told.add("object 0 by registers " + b.vault.unseal(0, 0));
+        told.add("object 2 by another's auth " + b.vault.unseal(2, 2));
+        b.key(THINGS);
         told.add("object 2 by the auth " + b.vault.unseal(2, 2));
     }
 
@@ -114,7 +116,8 @@ final class Scene {
 
     /** What SHUT, the KIND, the size and THE GREATEST are, by calls that they bear on. */
     private static void changes(Bench b, List<String> told) {
-        for (int i = 0; i < 8; i++) {
+        // Value 4, which is UNWRITTEN, before value 1, which would make a GREATEST of its own.
+        for (int i = 7; i >= 0; i--) {
             told.add("write(" + i + ") " + b.vault.write(i, 0, -1));
             told.add("count(" + i + ") " + b.vault.count(i, -1));
             told.add("chain(" + i + ") " + b.vault.chain(i, -1));

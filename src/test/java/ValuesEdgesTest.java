@@ -1,3 +1,4 @@
+import java.lang.reflect.Field;
 import java.util.Arrays;
 
 /** Promises 23 to 29, sentence by sentence: define, undefine, write, count, chain, read, shut. */
@@ -378,7 +379,6 @@ public final class ValuesEdgesTest {
         Check.due("its bytes", Bench.cat(Bench.four(0), Bench.four(8)), bytes(b, 7));
     }
 
-    /** No counter comes to 31 bits within 512 calls: what can be seen is that answer and bytes are one number. */
     private static void countAnswers() {
         Bench b = new Bench(2);
         b.vault.define(0, 1, 0, -1);
@@ -388,6 +388,36 @@ public final class ValuesEdgesTest {
                 Check.due("count", i, answer);
                 Check.due("its bytes", Bench.cat(Bench.four(0), Bench.four(i)), bytes(b, 0));
             }
+        }
+        countFrom((1L << 31) - 2, Bench.MOST, 0, 1);
+        countFrom((1L << 32) - 2, Bench.MOST, 0, 1);
+        countFrom((5L << 32) + 6, 7, 8);
+    }
+
+    private static void countFrom(long greatest, int... want) {
+        Bench b = new Bench(2);
+        b.vault.define(0, 1, 0, -1);
+        if (!setGreatest(b.vault, greatest)) {
+            System.out.println("THE GREATEST is kept elsewhere: counts beyond 31 bits are not asked for");
+            return;
+        }
+        for (int i = 0; i < want.length; i++) {
+            long number = greatest + 1 + i;
+            Check.due("count to " + number, want[i], b.vault.count(0, -1));
+            byte[] eight = Bench.cat(Bench.four((int) (number >> 32)), Bench.four((int) number));
+            Check.due("its 8 bytes", eight, bytes(b, 0));
+        }
+    }
+
+    /** No counter comes beyond 31 bits within 512 calls, so this reaches into the class; false if it can't. */
+    private static boolean setGreatest(MeasuredVault v, long number) {
+        try {
+            Field greatest = MeasuredVault.class.getDeclaredField("greatest");
+            greatest.setAccessible(true);
+            greatest.setLong(v, number);
+            return true;
+        } catch (ReflectiveOperationException | IllegalArgumentException e) {
+            return false;
         }
     }
 
