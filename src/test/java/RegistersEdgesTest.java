@@ -99,6 +99,7 @@ public final class RegistersEdgesTest {
         first.fail(5).tape(Bench.row(400));
         Check.due("state though LOCKED", 32, first.vault.state(0));
         Check.due("a full tape stays", 400, first.vault.look(7));
+        Check.due("FAILURES stay", 5, first.vault.look(0));
     }
 
     private static byte[] quote(int set, byte[] state, int clock, int restarts, byte[] tape) {
