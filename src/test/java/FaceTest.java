@@ -4,6 +4,7 @@ import java.lang.reflect.Method;
 import java.lang.reflect.Modifier;
 import java.nio.file.Files;
 import java.nio.file.Path;
+import java.util.ArrayList;
 import java.util.List;
 import java.util.Set;
 import java.util.TreeSet;
@@ -36,6 +37,7 @@ public final class FaceTest {
         }
         text();
         methodLengths();
+        documentsFace();
         Check.finish("FaceTest");
     }
 
@@ -135,6 +137,47 @@ public final class FaceTest {
             }
         }
         Check.holds("methods were found: " + methods, methods > METHODS.length);
+    }
+
+    /** The document's face, line by line and in its order, and what it says ahead of which calls. */
+    private static void documentsFace() throws Exception {
+        Path place = Path.of("../shared/DOC.md");
+        if (!Files.isReadable(place)) {
+            System.out.println("no document at " + place + ": its face is not looked up");
+            return;
+        }
+        String code = Files.readString(Path.of("src/main/java/MeasuredVault.java"));
+        String document = Files.readString(place);
+        int at = 0;
+        int lines = 0;
+        Matcher line = Pattern.compile("(?m)^ *(public .*?);?$").matcher(document);
+        while (line.find()) {
+            lines++;
+            at = code.indexOf(line.group(1), at);
+            Check.holds("in its place in the class: " + line.group(1), at >= 0);
+            at = Math.max(at, 0);
+        }
+        Check.due("lines of the document's face", 3 + METHODS.length, lines);
+        Matcher ahead = Pattern.compile("(?m)^Ahead of the calls (`.*`) the interface says: (.*)\\.$")
+            .matcher(document);
+        int groups = 0;
+        while (ahead.find()) {
+            groups++;
+            groupStandsTogether(code, ahead.group(2), ahead.group(1).replace("`", "").split(", "));
+        }
+        Check.due("what the interface says ahead of calls", 5, groups);
+    }
+
+    private static void groupStandsTogether(String code, String heading, String[] calls) {
+        int start = code.indexOf("// " + heading + "\n");
+        Check.holds("the class has the heading " + heading, start >= 0);
+        String part = code.substring(Math.max(start, 0)).split("(?m)// ---- |^    private ")[1];
+        List<String> found = new ArrayList<>();
+        Matcher method = Pattern.compile("public int (\\w+)\\(").matcher(part);
+        while (method.find()) {
+            found.add(method.group(1));
+        }
+        Check.holds("behind the heading " + heading + " are its calls: " + found, found.equals(List.of(calls)));
     }
 
     private static void text() throws Exception {

@@ -1,4 +1,5 @@
 import java.util.Random;
+import java.util.Set;
 import java.util.TreeMap;
 
 /** Runs of random calls, 512 an object, on the class and on the model; every answer must be the same. */
@@ -32,19 +33,15 @@ public final class RandomRunsTest {
         Check.finish("RandomRunsTest");
     }
 
-    /** Else the runs would not reach what they are there to compare. */
+    /** Else the runs would not reach what they are there to compare; and no call has an answer that is not its own. */
     private static void everyAnswerWasSeen(TreeMap<Integer, Integer> seen) {
-        int[][] due = {
-            {1, 0, -3}, {2, 0, -1}, {3, 0, -2}, {4, 0, -3}, {5, 0}, {6, 0}, {7, 0, -1}, {8, 0, -1}, {9, 0}, {10, 0, -1},
-            {11, 0, -1}, {12, 0, -1}, {13, 0, -1}, {14, 0, -1}, {15, 0, -1}, {16, 0, -1, -7}, {17, 0, -1},
-            {18, 0, -1}, {19, 0, -3, -6}, {20, 0, -1, -2, -4, -5, -7}, {21, 0, -2}, {22, 0, -1, -2, -4, -5},
-            {23, 0, -2, -4, -5}, {24, 0, -1, -2, -3, -4, -5, -7}, {25, 0, -1, -2, -3, -4, -5, -7},
-            {26, 0, -1, -2, -3, -4, -5, -7}, {27, 0, -1, -2, -3, -4, -5, -7}, {28, 0, -1, -2, -4, -5, -7},
-            {29, 0, -4, -5}, {30, 0, -4}, {31, 0, -4, -5}, {32, 0, -1}, {33, 0}, {34, 0, -1}
-        };
-        for (int[] row : due) {
-            for (int i = 1; i < row.length; i++) {
-                Check.holds("call " + row[0] + " answered " + row[i], seen.containsKey(row[0] * 10 - row[i]));
+        for (int which = 1; which <= Answers.calls(); which++) {
+            Set<String> due = Answers.of(which - 1);
+            String call = Answers.call(which - 1);
+            Check.holds(call + " answered 0 or more", seen.containsKey(which * 10));
+            for (String name : Answers.NAMES) {
+                Check.holds(call + (due.contains(name) ? " answered " : " did not answer ") + name,
+                    seen.containsKey(which * 10 - Answers.number(name)) == due.contains(name));
             }
         }
     }
